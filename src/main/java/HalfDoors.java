@@ -1188,10 +1188,17 @@ public final class HalfDoors {
         // The fewest minutes by child and by the goods that he carries, as bits.
         private final int[] minutes = new int[MOST_PEOPLE * LOADS];
         private int soonest = 0;
+        // It can't be sooner than this, so the search ends where it is as soon.
+        private int bound = 0;
 
         int soonestOf(Town town, Present present) {
             weighAll(town, present);
-            Arrays.fill(loads, 0);
+            bound = 0;
+            for (int g = 0; g < town.goods; g++) {
+                if (mustGo(town, present, g)) {
+                    bound = Math.max(bound, quickest(town.people, g));
+                }
+            }
             soonest = FAR;
             tryGood(town, present, 0, 0);
             return soonest;
@@ -1212,20 +1219,20 @@ public final class HalfDoors {
             weighAll(town, present);
             int bits = 0;
             for (int g = 0; g < town.goods; g++) {
-                if (mustGo(town, present, g) && !anyCarries(town.people, g)) {
+                if (mustGo(town, present, g) && quickest(town.people, g) >= FAR) {
                     bits |= 1 << g;
                 }
             }
             return bits;
         }
 
-        private boolean anyCarries(int people, int g) {
+        /** The minutes of the child by whom alone a good is soonest where it must go; FAR if no child can. */
+        private int quickest(int people, int g) {
+            int fewest = FAR;
             for (int p = 0; p < people; p++) {
-                if (minutes[p * LOADS + (1 << g)] < FAR) {
-                    return true;
-                }
+                fewest = Math.min(fewest, minutes[p * LOADS + (1 << g)]);
             }
-            return false;
+            return fewest;
         }
 
         private static boolean mustGo(Town town, Present present, int g) {
@@ -1267,7 +1274,7 @@ public final class HalfDoors {
 
         /** Goods from this one on are given to children in their order, so the first best is kept. */
         private void tryGood(Town town, Present present, int g, int latest) {
-            if (latest >= soonest) {
+            if (latest >= soonest || bound >= soonest) {
                 return;
             }
             if (g >= town.goods) {

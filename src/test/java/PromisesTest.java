@@ -60,6 +60,7 @@ public final class PromisesTest {
         led();
         size();
         trouble();
+        townsInTurn();
         Check.end("PromisesTest");
     }
 
@@ -759,5 +760,40 @@ public final class PromisesTest {
         Check.due("the latest", x.trouble(), 2);
         x.way(0, 3);
         Check.due("-2 is no refusal", x.trouble(), 0);
+    }
+
+    /** What another town told is gone, wherever the object had put it. */
+    private static void townsInTurn() {
+        String small = HEAD + "house a sill 20;house b sill 20;person m adult of a tall 66 upper abc lower ab";
+        x = Check.town(TOWN);
+        for (int i = 0; i < 3; i++) {
+            is("small", Check.tell(x, small), 1);
+            int[] dues = {6, 18, 80, 2, 0, 1, 0, 0, 0, 12, 0, 0, 0, 0};
+            for (int what = 0; what <= 13; what++) {
+                Check.due("size(" + what + ")", x.size(what), dues[what]);
+            }
+            is("no lane", x.way(0, 1), -2);
+            is("big", Check.tell(x, TOWN), 6);
+            Check.due("lanes", x.size(4), 3);
+            Check.due("goods", x.size(6), 3);
+            Check.due("visits", x.size(7), 6);
+            Check.due("prints", x.size(8), 3);
+            not("a fault", Check.tell(x, TOWN + ";"), 4);
+        }
+        // These come first on a new object: none leans on a call ahead of it.
+        x = Check.town(TOWN);
+        is("surely(1)", x.surely(1), 0);
+        x = Check.town(TOWN);
+        is("could(2)", x.could(2), 36);
+        x = Check.town(TOWN);
+        is("ask()", x.ask(), 2);
+        x = Check.town(TOWN);
+        is("carrier(1)", x.carrier(1), 5);
+        x = Check.town(TOWN);
+        is("alone(5)", x.alone(5), 30);
+        x = Check.town(TOWN);
+        is("stuck()", x.stuck(), 0);
+        x = Check.town(HEAD + "house a sill 20;person m adult of a tall 50 upper abc lower ab");
+        is("rest()", x.rest(), 55);
     }
 }

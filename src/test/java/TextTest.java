@@ -180,6 +180,12 @@ public final class TextTest {
         x.town(HEAD.length() + 15);
         Check.due("fault()", x.fault(), 1);
         Check.due("where()", x.where(), HEAD.length() + 15);
+        // So is a run of digits.
+        Check.feed(x, BASE + ";print a ab night 209");
+        Check.answers(x, "night 20, cut off", x.town(BASE.length() + 20), 1);
+        Check.feed(x, BASE + ";visit p a hour 3333");
+        Check.answers(x, "hour 3, cut off", x.town(BASE.length() + 17), 1);
+        Check.answers(x, "visit(0, 2)", x.visit(0, 2), 3);
     }
 
     private static void form() {
