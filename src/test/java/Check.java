@@ -4,8 +4,14 @@ import java.nio.charset.StandardCharsets;
 final class Check {
     private static int wrong = 0;
     private static int asked = 0;
+    // The test at hand, so that a wrong answer tells whose it is.
+    private static String test = "";
 
     private Check() {
+    }
+
+    static void begins(String name) {
+        test = name + ": ";
     }
 
     static void due(String call, long got, long want) {
@@ -13,7 +19,7 @@ final class Check {
         if (got != want) {
             wrong++;
             if (wrong <= 50) {
-                System.out.println(call + " answered " + got + ", due is " + want);
+                System.out.println(test + call + " answered " + got + ", due is " + want);
             }
         }
     }
@@ -41,6 +47,20 @@ final class Check {
     static void refused(HalfDoors x, String call, boolean got, int number) {
         due(call, got ? 1 : 0, 0);
         due(call + ", trouble()", x.trouble(), number);
+    }
+
+    /** A text that is refused: its fault stands where the second part begins. */
+    static void faultyAt(String ahead, String at, int fault) {
+        HalfDoors x = new HalfDoors();
+        refused(x, ahead + at, tell(x, ahead + at), 4);
+        due("fault of " + ahead + at, x.fault(), fault);
+        due("where of " + ahead + at, x.where(), ahead.length());
+    }
+
+    /** A text that tells a town. */
+    static void tells(String text) {
+        HalfDoors x = new HalfDoors();
+        answers(x, text, tell(x, text) > 0, true);
     }
 
     static void throwsNoSuch(HalfDoors x, int i) {

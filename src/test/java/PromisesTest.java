@@ -586,7 +586,7 @@ public final class PromisesTest {
         Check.refused(y, "dayOf(-1, 0, 1)", y.dayOf(-1, 0, 1), 1);
         y = Check.town("town dawn 11 dusk 12 door 80;house a sill 20;house b sill 59;"
                 + "person m adult of a tall 66 upper abc lower ab;person k adult of a tall 62 upper abc lower ab");
-        // Day 0: 74, 5624: m at a. Day 1, the seed going on: 28652, 51790: m at a. Day 2: 17571 ...
+        // Day 0: 74, 5624: m at a. Day 1, the seed going on: 28652, 51790: m at a. Day 2: 17641 ...
         Check.answers(y, "one day", y.dayOf(0, 0, 1), 13);
         Check.answers(y, "two days", y.dayOf(0, 0, 2), 26);
         Check.answers(y, "the other one", y.dayOf(1, 0, 2), 0);
