@@ -200,6 +200,24 @@ public final class Edges01To05Test {
         Check.due("images", x.size(12), 0);
     }
 
+    static void promise03_aSmallTownBehindABigOne() {
+        String big = Told.HEAD + Told.lines("house # sill 20", 6) + ";lane a b minutes 3;lane b c minutes 3"
+                + Told.lines("person p# adult of a tall 50 upper abc lower ab", 6)
+                + Told.lines("good g# size 3 at a to b", 5) + Told.lines("visit pa b hour 3", 8)
+                + Told.lines("print a ab night 3", 5);
+        HalfDoors x = Check.town(big);
+        int[] dues = {6, 18, 80, 2, 0, 1, 0, 0, 0, 12, 0, 0, 0, 0};
+        // More often than there could be places in which the object holds a town.
+        for (int i = 0; i < 4; i++) {
+            Check.answers(x, "small", Check.tell(x, BASE), 1);
+            for (int what = 0; what <= 13; what++) {
+                Check.due("size(" + what + ")", x.size(what), dues[what]);
+            }
+            Check.answers(x, "no way", x.way(0, 1), -2);
+            Check.answers(x, "big", Check.tell(x, big), 6);
+        }
+    }
+
     // ---- 3: tokens
 
     static void promise03_blanksMeanNothing() {
@@ -254,6 +272,11 @@ public final class Edges01To05Test {
         Check.feed(x, BASE + ";visit p a hour 1234567");
         Check.answers(x, "hour 12", x.town(BASE.length() + 18), 1);
         Check.answers(x, "visit(0, 2)", x.visit(0, 2), 12);
+        Check.feed(x, BASE + "cdefgh");
+        Check.answers(x, "lower ab", x.town(BASE.length()), 1);
+        // Also where the tape itself is full.
+        Check.feed(x, " ".repeat(1100 - BASE.length()) + BASE);
+        Check.answers(x, "at the tape's end", x.town(1100), 1);
     }
 
     static void promise03_semicolonsStandBetweenLines() {

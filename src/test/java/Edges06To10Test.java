@@ -70,6 +70,14 @@ public final class Edges06To10Test {
         }
     }
 
+    static void promise07_eachKind() {
+        HalfDoors x = Check.town(Told.ONE + Told.adult("p", 99) + Told.child("k", "a", 99)
+                + ";person q mermaid of a tall 99 upper abc lower ab");
+        for (int kind = 0; kind < 3; kind++) {
+            Check.answers(x, "person(" + kind + ", 0)", x.person(kind, 0), kind);
+        }
+    }
+
     static void promise07_aThirdOfHisHeightDownwards() {
         int[][] dues = {{20, 6}, {21, 7}, {29, 9}, {30, 10}, {98, 32}, {99, 33}};
         for (int[] due : dues) {

@@ -468,6 +468,18 @@ public final class Edges11To24Test {
         }
     }
 
+    static void promise23_eightVisitsAndThenNone() {
+        String text = Told.HEAD + ";house a sill 10" + Told.adult("p", 99);
+        HalfDoors x = Check.town(text + Told.lines("visit p a hour 12", 8));
+        Check.answers(x, "eight of 39", x.another(10), 312);
+        Check.answers(x, "eight of 1", x.another(48), 8);
+        // The object may hold the visits of two towns, but they are none of this one's.
+        Check.tell(x, text + Told.lines("visit p a hour 12", 8));
+        Check.tell(x, text);
+        Check.answers(x, "none", x.another(10), 0);
+        Check.answers(x, "nor a sill above the least", x.leastSill(), 10);
+    }
+
     static void promise23_noVisits() {
         HalfDoors x = Check.town(Told.ONE + Told.adult("p", 99));
         Check.answers(x, "another(10)", x.another(10), 0);

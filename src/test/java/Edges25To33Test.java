@@ -44,6 +44,15 @@ public final class Edges25To33Test {
         Check.answers(x, "one of 54", x.way(0, 5), 54);
     }
 
+    static void promise25_overTheFirstAndTheLastHouse() {
+        HalfDoors x = Check.town(SIX + ";lane b a minutes 2;lane a c minutes 3;lane d f minutes 4;lane f e minutes 5"
+                + Told.adult("p", 50));
+        Check.answers(x, "over a", x.way(1, 2), 5);
+        Check.answers(x, "over a", x.wayAt(1, 2, 1), 0);
+        Check.answers(x, "over f", x.way(3, 4), 9);
+        Check.answers(x, "over f", x.wayAt(3, 4, 1), 5);
+    }
+
     static void promise25_noSuchHouse() {
         HalfDoors x = Check.town(Told.LANE + Told.adult("p", 50));
         for (int none : NOT_OF_TWO) {
@@ -165,6 +174,15 @@ public final class Edges25To33Test {
     static void promise27_theMost() {
         HalfDoors x = Check.town(LINE_OF_SIX + Told.child("k", "f", 99) + Told.lines("good g# size 33 at a to f", 5));
         Check.answers(x, "five times there and back", x.carried(), 3000);
+    }
+
+    static void promise27_sixChildrenForFiveGoods() {
+        HalfDoors x = Check.town(Told.LANE + Told.lines("person p# child of a tall 99 upper abc lower ab", 6)
+                + Told.lines("good g# size 33 at a to b", 5));
+        Check.answers(x, "carried()", x.carried(), 7);
+        Check.answers(x, "the last good", x.carrier(4), 4);
+        Check.answers(x, "the last child alone", x.alone(5), 63);
+        Check.answers(x, "stuck()", x.stuck(), 0);
     }
 
     static void promise27_noTown() {

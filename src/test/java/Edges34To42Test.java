@@ -223,6 +223,17 @@ public final class Edges34To42Test {
         Check.answers(x, "of 61", x.shop(2, 3, false), 4);
     }
 
+    static void promise38_theHighestSillIs60() {
+        HalfDoors x = Check.town(Told.ONE + Told.adult("p", 60));
+        Check.answers(x, "nothing of 60, half of one", x.shop(5, 5, false), 10);
+        Check.answers(x, "over 50 it is one mark", x.shop(5, 4, true), 11);
+        Check.answers(x, "nothing against one", x.shop(5, 4, false), 10);
+        // 61 is one mark over 60, two over 50: 61 and 51.
+        x = Check.town(Told.ONE + Told.adult("p", 61));
+        Check.answers(x, "one against two", x.shop(5, 4, false), 10);
+        Check.answers(x, "two against one", x.shop(5, 4, true), 11);
+    }
+
     static void promise38_theMost() {
         // Over 50 all six of 51 are seen, over 60 nobody.
         HalfDoors x = Check.town(Told.ONE + Told.lines("person p# child of a tall 51 upper abc lower ab", 6));
@@ -247,6 +258,15 @@ public final class Edges34To42Test {
     static void promise39_aPairAndItsOtherWayAreTwo() {
         // Against 5 the best is 4 (3 and 8), against 4 it is 5 (10, where 3 has 3 and 6).
         HalfDoors x = Check.town(Told.ONE + Told.adult("p", 51));
+        Check.answers(x, "rests()", x.rests(), 2);
+    }
+
+    static void promise39_anotherTownsRestsAreGone() {
+        HalfDoors x = Check.town(Told.ONE + Told.lines("person p# child of a tall 51 upper abc lower ab", 6));
+        x.rests();
+        Check.tell(x, Told.ONE + Told.adult("p", 20));
+        Check.answers(x, "rests()", x.rests(), 1);
+        Check.tell(x, Told.ONE + Told.adult("p", 51));
         Check.answers(x, "rests()", x.rests(), 2);
     }
 
